@@ -182,7 +182,7 @@ public final class Blazonry {
             throw new IllegalStateException("there are too many persons");
         }
         int person = kin.add(father, mother, isMan);
-        bearing.upset();
+        settle();
         return person;
     }
 
@@ -192,7 +192,7 @@ public final class Blazonry {
         bearing.keep(person);
         honours.keep(person);
         kin.end(person);
-        bearing.upset();
+        settle();
         return bearing.abeyances();
     }
 
@@ -307,7 +307,7 @@ public final class Blazonry {
             throw new UnsupportedOperationException("nothing to be called to");
         }
         roll.setCalled(arms, person);
-        bearing.upset();
+        settle();
         return bearing.heiressCount(arms);
     }
 
@@ -396,7 +396,9 @@ public final class Blazonry {
 
     public int visit(int land) throws IllegalArgumentException {
         needLand(land);
-        return court.inspect(land, today);
+        int granted = court.inspect(land, today);
+        settle();
+        return granted;
     }
 
     public int disclaimed() {
@@ -412,7 +414,9 @@ public final class Blazonry {
             throw new UnsupportedOperationException("nothing to sue for");
         }
         needDocket();
-        return court.judge(bearing.armsOf(person), bearing.armsOf(other), today);
+        int judgment = court.judge(bearing.armsOf(person), bearing.armsOf(other), today);
+        settle();
+        return judgment;
     }
 
     public char judged(int judgment) throws IndexOutOfBoundsException {
@@ -444,7 +448,9 @@ public final class Blazonry {
             throw new UnsupportedOperationException("no appeal from it");
         }
         needDocket();
-        return court.overturn(judgment, today);
+        int next = court.overturn(judgment, today);
+        settle();
+        return next;
     }
 
     // Ranks, augmentations and abatements.
@@ -545,6 +551,12 @@ public final class Blazonry {
 
     // What the calls above share.
 
+    /** Finds anew who bears and quarters what; it is due behind each call that may change this. */
+    private void settle() {
+        bearing.settle();
+        marshal.settle();
+    }
+
     private void forgetRow() {
         isRowDrawn = false;
         isRowTold = false;
@@ -573,7 +585,7 @@ public final class Blazonry {
 
     private int enter(int person, int land, char letter) {
         int arms = roll.add(row, person, land, today, letter);
-        bearing.upset();
+        settle();
         emptyRow();
         return arms;
     }
@@ -888,7 +900,7 @@ public final class Blazonry {
                 return readOrdinary(group);
             }
             boolean isStrewn = takeIn(STREWN, STREWN) != 0;
-            group.number = isStrewn ? ALL_BLOCKS : takeNumber();
+            group.number = isStrewn ? ALL_BLOCKS : Math.max(takeIn(NUMBERS + 1, NUMBERS + 9) - NUMBERS, 0);
             if (group.number == 0) {
                 return false;
             }
@@ -909,7 +921,7 @@ public final class Blazonry {
             if (group.tincture == 0 || takeIn(ON_IT, ON_IT) == 0) {
                 return group.tincture != 0;
             }
-            group.onNumber = takeNumber();
+            group.onNumber = Math.max(takeIn(NUMBERS + 1, NUMBERS + 9) - NUMBERS, 0);
             if (group.onNumber == 0) {
                 return false;
             }
@@ -920,11 +932,6 @@ public final class Blazonry {
             group.onAttitude = takeIn(TURNED, OVERTURNED);
             group.onTincture = takeTincture(true);
             return group.onTincture != 0;
-        }
-
-        private int takeNumber() {
-            int word = takeIn(NUMBERS + 1, NUMBERS + 9);
-            return word == 0 ? 0 : word - NUMBERS;
         }
 
         /** Takes the next word if it is one of these; otherwise 0, and the word stays. */
@@ -1672,7 +1679,7 @@ public final class Blazonry {
         }
 
         boolean isSonOf(int person, int father) {
-            return isMan(person) && fathers[person] == father;
+            return has(person) && men[person] && fathers[person] == father;
         }
 
         boolean isDaughterOf(int person, int father) {
@@ -1945,25 +1952,14 @@ public final class Blazonry {
         private final int[] lastMen = new int[MOST_ARMS];
         private final int[] heiressCounts = new int[MOST_ARMS];
         private final int[] fallsTo = new int[MOST_ARMS];
-        private boolean isSettled;
-        int version;
 
         Bearing(Kin kin, Roll roll) {
             this.kin = kin;
             this.roll = roll;
         }
 
-        void upset() {
-            isSettled = false;
-        }
-
         /** Goes up the numbers, as a father's is always lower than that of a child. */
         void settle() {
-            if (isSettled) {
-                return;
-            }
-            isSettled = true;
-            version++;
             for (int a = 0; a < roll.count && a < MOST_ARMS; a++) {
                 findHeiresses(a);
             }
@@ -2061,7 +2057,6 @@ public final class Blazonry {
 
         /** Keeps for good how things are with a person who is about to die. */
         void keep(int person) {
-            settle();
             if (kin.has(person)) {
                 kept[person] = borne[person];
                 wereLast[person] = kin.isLastOfLine(person);
@@ -2069,12 +2064,10 @@ public final class Blazonry {
         }
 
         int armsOf(int person) {
-            settle();
             return kin.has(person) ? borne[person] : -1;
         }
 
         int markCount(int person) {
-            settle();
             return kin.has(person) ? markCounts[person] : 0;
         }
 
@@ -2091,19 +2084,16 @@ public final class Blazonry {
         }
 
         int heiressCount(int arms) {
-            settle();
             return arms >= 0 && arms < MOST_ARMS ? heiressCounts[arms] : 0;
         }
 
         boolean isLastHeiress(int person, int arms) {
-            settle();
             return arms >= 0 && arms < MOST_ARMS && lastMen[arms] >= 0
                     && kin.isDaughterOf(person, lastMen[arms]) && kin.isAlive(person);
         }
 
         /** Whether arms are in abeyance. */
         boolean liesBetween(int arms) {
-            settle();
             return arms >= 0 && arms < MOST_ARMS && heiressCounts[arms] > 1 && fallsTo[arms] < 0;
         }
 
@@ -2118,7 +2108,6 @@ public final class Blazonry {
         }
 
         int countBearers(int arms) {
-            settle();
             int found = 0;
             for (int p = 0; p < kin.count && p < MOST_PERSONS; p++) {
                 if (borne[p] == arms && kin.isAlive(p)) {
@@ -2129,7 +2118,6 @@ public final class Blazonry {
         }
 
         int countArmigers() {
-            settle();
             int found = 0;
             for (int p = 0; p < kin.count && p < MOST_PERSONS; p++) {
                 if (borne[p] >= 0 && kin.isAlive(p)) {
@@ -2140,7 +2128,6 @@ public final class Blazonry {
         }
 
         boolean isBorneByOther(int arms, int person) {
-            settle();
             for (int p = 0; p < kin.count && p < MOST_PERSONS; p++) {
                 if (p != person && borne[p] == arms && kin.isAlive(p)) {
                     return true;
@@ -2151,7 +2138,6 @@ public final class Blazonry {
 
         /** Whether the first bearer, a son and a son of that son bear arms, or bore them. */
         boolean isBorneByThree(int arms) {
-            settle();
             int first = roll.firstBearer(arms);
             if (!kin.has(first) || borne[first] != arms) {
                 return false;
@@ -2166,7 +2152,6 @@ public final class Blazonry {
         }
 
         boolean areVoidUnborne() {
-            settle();
             for (int p = 0; p < kin.count && p < MOST_PERSONS; p++) {
                 if (borne[p] >= 0 && roll.isVoid(borne[p])) {
                     return false;
@@ -2286,7 +2271,6 @@ public final class Blazonry {
         private final int[] counts = new int[MOST_PERSONS];
         private final Picture quarterPicture = new Picture();
         private final Picture wifePicture = new Picture();
-        private int version;
 
         Marshal(Kin kin, Roll roll, Bearing bearing, Honours honours, Painter painter) {
             this.kin = kin;
@@ -2296,12 +2280,8 @@ public final class Blazonry {
             this.painter = painter;
         }
 
-        private void settle() {
-            bearing.settle();
-            if (version == bearing.version) {
-                return;
-            }
-            version = bearing.version;
+        /** Goes up the numbers, as those of the parents are always lower than that of a child. */
+        void settle() {
             for (int p = 0; p < kin.count && p < MOST_PERSONS; p++) {
                 counts[p] = 0;
                 int own = bearing.armsOf(p);
@@ -2339,22 +2319,18 @@ public final class Blazonry {
         }
 
         int quarterCount(int person) {
-            settle();
             return kin.has(person) ? counts[person] : 0;
         }
 
         int armsAt(int person, int index) {
-            settle();
             return kin.has(person) && index >= 0 && index < MOST_QUARTERS ? arms[person][index] : -1;
         }
 
         int bearerAt(int person, int index) {
-            settle();
             return kin.has(person) && index >= 0 && index < MOST_QUARTERS ? bearers[person][index] : -1;
         }
 
         boolean areProved() {
-            settle();
             for (int p = 0; p < kin.count && p < MOST_PERSONS; p++) {
                 for (int q = 0; q < counts[p] && q < MOST_QUARTERS; q++) {
                     int bearer = bearers[p][q];
@@ -2367,7 +2343,6 @@ public final class Blazonry {
         }
 
         void paintShield(Picture picture, int person) {
-            settle();
             paintQuarters(picture, person);
             int wife = kin.isMan(person) ? kin.spouseOf(person) : -1;
             if (bearing.armsOf(wife) >= 0) {
@@ -2463,7 +2438,7 @@ public final class Blazonry {
                     roll.setLetter(a, 'v');
                     disclaimedCount++;
                     // Who bore these bears others now, which counts for the arms that come next.
-                    bearing.upset();
+                    bearing.settle();
                 }
             }
             return granted;
@@ -2513,7 +2488,6 @@ public final class Blazonry {
             lettersBefore[judgment] = roll.letterOf(loser);
             inForce[judgment] = true;
             roll.setLetter(loser, 'v');
-            bearing.upset();
             return judgment;
         }
 

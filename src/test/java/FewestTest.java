@@ -30,6 +30,11 @@ public final class FewestTest {
         // one of the two tinctures alone
         told("[1, 22, 3]", 12, 1, 16, 31, 22, 3);
         told("[3, 24, 1]", 12, 3, 16, 3, 24, 1);
+        // a line and what is on it are left out alone, or both, or none
+        told("[3, 22, 9, 1, 36, 64, 51, 2]", 3, 22, 9, 1, 36, 64, 51, 2);
+        told("[3, 24, 9, 1, 36, 64, 51, 2, 22, 5]", 3, 24, 9, 1, 36, 69, 51, 2, 22, 5);
+        told("[3, 22, 1, 36, 64, 51, 2, 24, 5]", 3, 22, 1, 36, 69, 51, 2, 24, 5);
+        told("[3, 24, 9, 1]", 3, 24, 9, 1, 36, 69, 51, 1);
         // numbers as many as are drawn
         told("[3, 24, 1, 36, 64, 51, 5]", 3, 24, 1, 36, 69, 51, 5);
         told("[3, 68, 51, 41, 1]", 3, 69, 51, 41, 1);

@@ -106,6 +106,15 @@ public final class KinTest {
         Check.refused(land, "a widow's husband", NoSuchElementException.class, () -> land.spouse(3));
         Check.refused(land, "a dead husband", UnsupportedOperationException.class, () -> land.marry(1, 3));
         Check.due("an heiress", true, () -> land.marry(0, 3));
+        Blazonry first = new Blazonry();
+        woman(first, -1, -1);
+        man(first, -1, -1);
+        woman(first, -1, -1);
+        man(first, -1, -1);
+        first.marry(1, 0);
+        Check.refused(first, "whose wife is the first", UnsupportedOperationException.class, () -> first.marry(1, 2));
+        Check.refused(first, "the first again", UnsupportedOperationException.class, () -> first.marry(3, 0));
+        Check.due("husband of the first", 1, () -> first.spouse(0));
     }
 
     private static void heiresses() {

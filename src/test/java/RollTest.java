@@ -216,6 +216,13 @@ public final class RollTest {
         Check.due("far enough", 'g', () -> land.cameBy(2));
         Check.due("in another land", 'u', () -> land.cameBy(3));
         Check.due("disclaimed", 1, land::disclaimed);
+        Blazonry far = new Blazonry();
+        man(far, -1);
+        man(far, -1);
+        assume(far, 0, 0, 3);
+        assume(far, 1, 0, 3, 68, 54, 1);
+        far.pass(60);
+        Check.due("24 points are not near", 2, () -> far.visit(0));
         Blazonry borneByNobody = new Blazonry();
         man(borneByNobody, -1);
         man(borneByNobody, -1);

@@ -295,6 +295,7 @@ public final class ShieldTest {
         land.marry(0, 2);
         row(land, 0, 0, "3333333311111111");
         row(land, 0, 9, "3333333344444444");
+        row(land, 0, 15, "3333333344444444");
         row(land, 2, 0, "1111111111111111");
         land.death(1);
         row(land, 0, 0, "3333333333333333");

@@ -7,6 +7,7 @@ public final class SuitTest {
         sixtyYears();
         precedents();
         classes();
+        classBounds();
         appeals();
         appealOfTheElder();
         twoYears();
@@ -106,6 +107,35 @@ public final class SuitTest {
         Check.due("class 1", 2, () -> land.precedent(0, 1));
         Check.due("class 2", 4, () -> land.precedent(0, 2));
         Check.refused(land, "24", UnsupportedOperationException.class, () -> land.sue(0, 6));
+    }
+
+    /** Those that are 7 and 8 points away are of two classes, so are those 15 and 16 points away. */
+    private static void classBounds() {
+        Blazonry land = new Blazonry();
+        for (int p = 0; p < 4; p++) {
+            man(land, -1);
+        }
+        assume(land, 0, 0, 3);
+        assume(land, 1, 0, 3, 61, 51, 1);
+        assume(land, 2, 0, 3, 61, 55, 1);
+        assume(land, 3, 0, 3, 62, 55, 1);
+        land.sue(0, 1);
+        land.pass(60);
+        Check.due("8 points away", 1, () -> land.sue(0, 2));
+        Check.due("no precedent of its class", 'y', () -> land.judged(1));
+        Blazonry other = new Blazonry();
+        for (int p = 0; p < 3; p++) {
+            man(other, -1);
+        }
+        assume(other, 0, 0, 3);
+        assume(other, 1, 0, 3, 65, 54, 1);
+        assume(other, 2, 0, 3, 62, 55, 1);
+        other.sue(0, 1);
+        other.pass(60);
+        Check.due("16 points away", 1, () -> other.sue(0, 2));
+        Check.due("no precedent of its class", 'y', () -> other.judged(1));
+        Check.due("class 1", 0, () -> other.precedent(0, 1));
+        Check.due("class 2", 1, () -> other.precedent(0, 2));
     }
 
     private static void appeals() {

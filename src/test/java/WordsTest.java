@@ -6,6 +6,7 @@ public final class WordsTest {
         fields();
         groups();
         reachingBack();
+        eachWordEverywhere();
         meanings();
         Check.end();
     }
@@ -121,6 +122,28 @@ public final class WordsTest {
         }
         wrong(-1, 11, 1, 16, 3, 22, 35, 36, 61, 51, 31);
         wrong(2, 3, 22, 34);
+    }
+
+    /** Every word at every place of some rows, against the grammar of the oracle. */
+    private static void eachWordEverywhere() {
+        int[][] rows = {
+            {13, 9, 1, 16, 31, 22, 10, 35, 36, 61, 51, 45, 31, 39, 52, 46, 33, 69, 58, 44, 32},
+            {3, 25, 31, 36, 62, 52, 32, 63, 53, 41, 1, 28, 2},
+            {14, 8, 16, 2, 27, 33, 39, 57, 35, 24, 9, 31, 36, 64, 54, 33},
+            {7, 61, 51, 2, 62, 52, 45, 42, 31, 26, 4, 21, 32, 36, 65, 55, 46, 32}};
+        for (int[] row : rows) {
+            for (int at = 0; at <= row.length; at++) {
+                for (int word = 0; word < 100; word++) {
+                    int[] words = java.util.Arrays.copyOf(row, Math.max(row.length, at + 1));
+                    words[at] = word;
+                    java.util.List<Integer> list = new java.util.ArrayList<>();
+                    for (int each : words) {
+                        list.add(each);
+                    }
+                    wrong(Oracle.fault(list), words);
+                }
+            }
+        }
     }
 
     private static void meant(String want, int index, int... words) {

@@ -14,6 +14,7 @@ public final class DrawingTest {
         counterchanged();
         shapes();
         rule();
+        rulePairs();
         wrongInputs();
         Check.end();
     }
@@ -166,6 +167,10 @@ public final class DrawingTest {
         drawn("1", 0, true, 3, 25, 1, 36, 69, 56, 5);
         row(8, "1111111155511111", 3, 25, 1, 36, 69, 56, 5);
         row(9, "3333333153333333", 3, 25, 1, 36, 69, 56, 5);
+        // a wavy pale has 4 points of the blocks in one column, and 5 of those in the next one
+        drawn("4", 0, true, 3, 21, 9, 1, 36, 69, 56, 5);
+        row(0, "3333331155333333", 3, 21, 9, 1, 36, 69, 56, 5);
+        drawn("4", 0, true, 3, 23, 1, 36, 69, 56, 5);
         row(0, "5551555155515551", 3, 24, 1, 36, 69, 56, 5);
         againstOracle(3, 23, 1, 36, 69, 56, 5);
         againstOracle(3, 26, 1, 36, 69, 55, 46, 5);
@@ -232,6 +237,19 @@ public final class DrawingTest {
         breaks(1, 3, 25, 1, 36, 61, 51, 2);
     }
 
+    /** Each two tinctures, of a field and a group, and of an ordinary and what is on it. */
+    private static void rulePairs() {
+        for (int one = 1; one <= 8; one++) {
+            for (int other = 1; other <= 8; other++) {
+                boolean isBroken = one <= 2 && other <= 2 || one > 2 && other > 2 && one < 8 && other < 8;
+                breaks(isBroken ? 1 : 0, one, 22, other);
+                breaks(isBroken ? 1 : 0, one, 61, 51, other);
+                breaks(isBroken ? 1 : 0, 12, 1, 16, 3, 22, one, 36, 61, 51, other);
+                breaks(0, one, 28, other);
+            }
+        }
+    }
+
     private static void wrongInputs() {
         Blazonry land = Check.row(3, 24, 1);
         int[][] noPoints = {{-1, 0}, {16, 0}, {0, -1}, {0, 16}};
@@ -245,6 +263,11 @@ public final class DrawingTest {
         Check.refused(land, "drawn of none on", NoSuchElementException.class, () -> land.drawn(0, true));
         Check.refused(land, "drawn of an ordinary", NoSuchElementException.class, () -> land.drawn(0, false));
         Check.refused(land, "drawn of group 1", NoSuchElementException.class, () -> land.drawn(1, false));
+        Blazonry before = Check.row(3, 24, 1, 61, 51, 1);
+        Check.due("drawn of group 1", 1, () -> before.drawn(1, false));
+        Check.typed(before, 3);
+        Check.due("no group now", "throws.NoSuchElementException", () -> before.drawn(1, false));
+        Check.due("no group now", "throws.NoSuchElementException", () -> before.drawn(0, false));
         Check.refused(land, "drawn of group -1", NoSuchElementException.class, () -> land.drawn(-1, false));
         drawn("throws.NoSuchElementException", 0, true, 3, 61, 51, 1);
         land.type(36);

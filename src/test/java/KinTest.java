@@ -115,6 +115,13 @@ public final class KinTest {
         Check.refused(first, "whose wife is the first", UnsupportedOperationException.class, () -> first.marry(1, 2));
         Check.refused(first, "the first again", UnsupportedOperationException.class, () -> first.marry(3, 0));
         Check.due("husband of the first", 1, () -> first.spouse(0));
+        Check.due("wife of the second", 0, () -> first.spouse(1));
+        Blazonry last = new Blazonry();
+        man(last, -1, -1);
+        woman(last, -1, -1);
+        man(last, -1, -1);
+        last.marry(0, 1);
+        Check.refused(last, "whose husband is the first", UnsupportedOperationException.class, () -> last.marry(2, 1));
     }
 
     private static void heiresses() {

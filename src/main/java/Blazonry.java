@@ -248,7 +248,9 @@ public final class Blazonry {
             throw new UnsupportedOperationException("too near to arms of this land");
         }
         needRoom();
-        return enter(person, land, 'g');
+        int arms = enter(person, land, 'g');
+        settle();
+        return arms;
     }
 
     public int assume(int person, int land) throws IndexOutOfBoundsException, IllegalArgumentException,
@@ -261,7 +263,9 @@ public final class Blazonry {
             throw new UnsupportedOperationException("bears arms of this land");
         }
         needRoom();
-        return enter(person, land, 'u');
+        int arms = enter(person, land, 'u');
+        settle();
+        return arms;
     }
 
     public char cameBy(int arms) throws IndexOutOfBoundsException {
@@ -585,7 +589,6 @@ public final class Blazonry {
 
     private int enter(int person, int land, char letter) {
         int arms = roll.add(row, person, land, today, letter);
-        settle();
         emptyRow();
         return arms;
     }
@@ -1397,9 +1400,10 @@ public final class Blazonry {
         }
 
         private void layHonour(int honour) {
-            Arrays.fill(body, 0);
-            Arrays.fill(on, 0);
-            Arrays.fill(body, 0, 5, 31);
+            for (int y = 0; y < SIDE; y++) {
+                body[y] = y <= 4 ? 31 : 0;
+                on[y] = 0;
+            }
             stamp(on, chargeRows(honour >> 8 & 255, 0), 1, 1);
         }
 
@@ -1674,8 +1678,11 @@ public final class Blazonry {
 
         /** Whether a person, living or not, is an heiress. */
         boolean isLastOfLine(int person) {
-            int father = fatherOf(person);
-            return father >= 0 && !isMan(person) && !isAlive(father) && livingLine(father) == 0;
+            if (!has(person) || men[person] || !has(fathers[person])) {
+                return false;
+            }
+            int father = fathers[person];
+            return deaths[father] > 0 && lines[father] == 0;
         }
 
         boolean isSonOf(int person, int father) {
@@ -1688,8 +1695,9 @@ public final class Blazonry {
 
         int sonRank(int person) {
             int rank = 1;
+            int father = fatherOf(person);
             for (int p = 0; p < person && has(p); p++) {
-                if (isSonOf(p, fatherOf(person))) {
+                if (isSonOf(p, father)) {
                     rank++;
                 }
             }
@@ -1698,8 +1706,11 @@ public final class Blazonry {
 
         /** Whether a person is the heir of a father who is told and dead. */
         boolean isHeir(int person) {
-            int father = fatherOf(person);
-            if (father < 0 || isAlive(father) || !isMan(person) || !isAlive(person)) {
+            if (!has(person) || !men[person] || deaths[person] > 0 || !has(fathers[person])) {
+                return false;
+            }
+            int father = fathers[person];
+            if (deaths[father] == 0) {
                 return false;
             }
             for (int p = 0; p < person && has(p); p++) {
@@ -1712,7 +1723,7 @@ public final class Blazonry {
 
         /** Whether a man is another one, or of the male line of that one. */
         boolean isOfLine(int person, int forefather) {
-            int man = isMan(person) ? person : -1;
+            int man = has(person) && men[person] ? person : -1;
             for (int step = 0; step < MOST_PERSONS && has(man); step++) {
                 if (man == forefather) {
                     return true;
@@ -1727,8 +1738,9 @@ public final class Blazonry {
             if (!has(one) || !has(person)) {
                 return false;
             }
-            Arrays.fill(reached, false);
-            reached[person] = true;
+            for (int p = 0; p < MOST_PERSONS; p++) {
+                reached[p] = p == person;
+            }
             for (int p = person; p > one && p < MOST_PERSONS; p--) {
                 if (reached[p]) {
                     reach(fathers[p]);
@@ -1856,7 +1868,7 @@ public final class Blazonry {
         }
 
         boolean isVoid(int arms) {
-            return letterOf(arms) == 'v';
+            return !has(arms) || letters[arms] == 'v';
         }
 
         int calledTo(int arms) {

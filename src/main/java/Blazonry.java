@@ -1516,7 +1516,8 @@ public final class Blazonry {
                 at = Group.put(words, at, told.second);
             }
             lengths[0] = at;
-            painter.paintField(levels[0], isFieldParted ? told.parting : 0, line, first, isFieldParted ? told.second : 0);
+            int parting = isFieldParted ? told.parting : 0;
+            painter.paintField(levels[0], parting, line, first, isFieldParted ? told.second : 0);
             return true;
         }
 

@@ -190,7 +190,6 @@ public final class Blazonry {
         needPerson(person);
         needAlive(person);
         bearing.keep(person);
-        honours.keep(person);
         kin.end(person);
         settle();
         return bearing.abeyances();
@@ -1962,6 +1961,7 @@ public final class Blazonry {
         private final int[][] marks = new int[MOST_PERSONS][MOST_PERSONS];
         private final int[] markCounts = new int[MOST_PERSONS];
         private final boolean[] wereLast = new boolean[MOST_PERSONS];
+        private final boolean[] wereHeirs = new boolean[MOST_PERSONS];
         private final int[] lastMen = new int[MOST_ARMS];
         private final int[] heiressCounts = new int[MOST_ARMS];
         private final int[] fallsTo = new int[MOST_ARMS];
@@ -2073,6 +2073,7 @@ public final class Blazonry {
             if (kin.has(person)) {
                 kept[person] = borne[person];
                 wereLast[person] = kin.isLastOfLine(person);
+                wereHeirs[person] = kin.isHeir(person);
             }
         }
 
@@ -2094,6 +2095,15 @@ public final class Blazonry {
 
         boolean bringsQuarters(int woman) {
             return kin.isLastOfLine(woman) || kin.has(woman) && !kin.isAlive(woman) && wereLast[woman];
+        }
+
+        /** Whether a person is, or died as, the heir of the father and bears the arms that he bore. */
+        boolean bearsAsHeir(int person) {
+            int arms = armsOf(person);
+            if (arms < 0 || arms != armsOf(kin.fatherOf(person))) {
+                return false;
+            }
+            return kin.isHeir(person) || kin.has(person) && !kin.isAlive(person) && wereHeirs[person];
         }
 
         int heiressCount(int arms) {
@@ -2180,7 +2190,6 @@ public final class Blazonry {
         private final Bearing bearing;
         private final int[] ranks = new int[MOST_PERSONS];
         private final int[] crests = new int[MOST_PERSONS];
-        private final int[] heldCrests = new int[MOST_PERSONS];
         private final int[] rights = new int[MOST_PERSONS];
         private final int[] lefts = new int[MOST_PERSONS];
         private final boolean[] abated = new boolean[MOST_PERSONS];
@@ -2231,33 +2240,20 @@ public final class Blazonry {
             return kin.isAlive(person) && abated[person];
         }
 
-        /** Keeps the crest that a person who is about to die has from the father. */
-        void keep(int person) {
-            if (kin.has(person)) {
-                heldCrests[person] = inheritedCrest(person);
-            }
-        }
-
-        private int inheritedCrest(int person) {
-            int father = kin.fatherOf(person);
-            if (!kin.isAlive(person)) {
-                return kin.has(person) ? heldCrests[person] : 0;
-            }
-            if (!kin.isHeir(person) || !kin.has(father)) {
-                return 0;
-            }
-            int arms = bearing.armsOf(person);
-            if (arms < 0 || arms != bearing.armsOf(father)) {
-                return 0;
-            }
-            return crests[father] != 0 ? crests[father] : heldCrests[father];
-        }
-
+        /** Goes up the fathers to the first one who told a crest, as long as each one had what his father had. */
         int shownCrest(int person) {
             if (!kin.has(person) || ranks[person] < 1) {
                 return 0;
             }
-            return crests[person] != 0 ? crests[person] : inheritedCrest(person);
+            int man = person;
+            for (int step = 0; step < MOST_PERSONS && crests[man] == 0; step++) {
+                int father = kin.fatherOf(man);
+                if (!bearing.bearsAsHeir(man) || !kin.has(father)) {
+                    return 0;
+                }
+                man = father;
+            }
+            return crests[man];
         }
 
         int shownSupporter(int person, boolean isRight) {

@@ -471,9 +471,9 @@ final class Oracle {
         int died;
         Bears kept;
         boolean wasHeiress;
+        boolean wasHeir;
         int rank;
         int crest;
-        int hadCrest;
         int[] supporters;
         boolean abated;
     }
@@ -639,14 +639,9 @@ final class Oracle {
         if (p.crest != 0) {
             return p.crest;
         }
-        if (!p.alive) {
-            return p.hadCrest;
-        }
         Bears own = bears(p);
-        if (heir(p) && own != null && bearsThese(p.father, own.arms)) {
-            return p.father.crest != 0 ? p.father.crest : p.father.hadCrest;
-        }
-        return 0;
+        boolean isHeir = p.alive ? heir(p) : p.wasHeir;
+        return isHeir && own != null && bearsThese(p.father, own.arms) ? crestOf(p.father) : 0;
     }
 
     // ---- marshalling
@@ -969,13 +964,9 @@ final class Oracle {
             case "death": {
                 Person p = person(a[0]);
                 operation(p.alive);
-                p.hadCrest = 0;
-                int crest = p.crest;
-                p.crest = 0;
-                p.hadCrest = crestOf(p);
-                p.crest = crest;
                 p.kept = bears(p);
                 p.wasHeiress = heiress(p);
+                p.wasHeir = heir(p);
                 p.alive = false;
                 p.died = ++deaths;
                 if (p.spouse != null) {

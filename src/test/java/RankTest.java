@@ -6,6 +6,8 @@ public final class RankTest {
         ranks();
         crests();
         inheritedCrests();
+        crestsOfTheDead();
+        crestsOfVoidArms();
         supporters();
         augmentations();
         abatements();
@@ -88,6 +90,81 @@ public final class RankTest {
         bare.setRank(1, 1);
         bare.death(0);
         Check.refused(bare, "no arms", NoSuchElementException.class, () -> bare.crest(1));
+    }
+
+    /** Who died as an heir still has what his forefathers told, whenever they told it. */
+    private static void crestsOfTheDead() {
+        Blazonry land = new Blazonry();
+        int first = man(land, -1);
+        int heir = man(land, first);
+        int second = man(land, first);
+        int grandson = man(land, heir);
+        int last = man(land, grandson);
+        int early = man(land, first);
+        Check.typed(land, 3).grant(first, 0);
+        for (int p = 0; p <= early; p++) {
+            land.setRank(p, 1);
+        }
+        land.death(early);
+        for (int p : new int[] {first, second, heir, grandson}) {
+            land.death(p);
+        }
+        land.setCrest(first, 53);
+        for (int p : new int[] {first, heir, grandson, last}) {
+            Check.due("told by the dead", 53, () -> land.crest(p));
+        }
+        for (int p : new int[] {second, early}) {
+            Check.refused(land, "died as no heir", NoSuchElementException.class, () -> land.crest(p));
+        }
+        land.setCrest(first, 54);
+        Check.due("told anew", 54, () -> land.crest(heir));
+        Check.due("told anew", 54, () -> land.crest(last));
+        land.setCrest(heir, 55);
+        Check.due("his own", 55, () -> land.crest(heir));
+        Check.due("of the nearer one", 55, () -> land.crest(grandson));
+        Check.due("of the nearer one", 55, () -> land.crest(last));
+        land.death(last);
+        Check.due("and dead", 55, () -> land.crest(last));
+
+        Blazonry other = new Blazonry();
+        man(other, -1);
+        man(other, 0);
+        man(other, 1);
+        Check.typed(other, 3).grant(0, 0);
+        other.setRank(1, 1);
+        other.setRank(2, 1);
+        other.death(0);
+        Check.typed(other, 5).grant(1, 0);
+        other.setCrest(0, 53);
+        other.death(1);
+        Check.refused(other, "died with other arms", NoSuchElementException.class, () -> other.crest(1));
+        Check.refused(other, "nor had so in turn", NoSuchElementException.class, () -> other.crest(2));
+    }
+
+    /** No crest goes with arms as long as they are void. */
+    private static void crestsOfVoidArms() {
+        Blazonry land = new Blazonry();
+        int first = man(land, -1);
+        int heir = man(land, first);
+        int grandson = man(land, heir);
+        int rival = man(land, -1);
+        Check.typed(land, 1).grant(first, 0);
+        land.setCrest(first, 53);
+        land.setRank(first, 1);
+        land.setRank(heir, 1);
+        land.setRank(grandson, 1);
+        land.death(first);
+        land.death(heir);
+        Check.typed(land, 1, 62, 56, 5).assume(rival, 0);
+        land.pass(60);
+        Check.due("sue", 0, () -> land.sue(rival, grandson));
+        Check.due("void", 'v', () -> land.cameBy(0));
+        Check.refused(land, "the dead heir", NoSuchElementException.class, () -> land.crest(heir));
+        Check.refused(land, "the living one", NoSuchElementException.class, () -> land.crest(grandson));
+        Check.due("what he told himself", 53, () -> land.crest(first));
+        Check.due("appeal", 1, () -> land.appeal(0));
+        Check.due("as before", 53, () -> land.crest(heir));
+        Check.due("as before", 53, () -> land.crest(grandson));
     }
 
     private static void supporters() {

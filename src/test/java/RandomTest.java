@@ -5,6 +5,7 @@ import java.util.TreeMap;
 
 /** Long runs of calls by chance, of a fixed seed, on the class and on the oracle. */
 public final class RandomTest {
+    private static final int RANKS = 5;
     private static final String[] ASKED = {
         "wrongAt", "point", "points", "breaks", "drawn", "meant", "fewest", "fewestAt", "losses", "translated", "lives",
         "spouse", "isHeiress", "lineOf", "cameBy", "yearOf", "borne", "differences", "difference", "isInAbeyance",
@@ -21,12 +22,12 @@ public final class RandomTest {
     }
 
     public static void main(String[] args) {
-        int runs = args.length > 0 ? Integer.parseInt(args[0]) : 250;
+        int runs = args.length > 0 ? Integer.parseInt(args[0]) : 300;
         long from = args.length > 1 ? Long.parseLong(args[1]) : 1;
         Map<String, Integer> seen = new TreeMap<>();
         for (int run = 0; run < runs; run++) {
             RandomTest test = new RandomTest(from + run, seen);
-            test.run(run % 5);
+            test.run(run % 6);
         }
         if (args.length > 0) {
             System.out.println(seen);
@@ -93,7 +94,10 @@ public final class RandomTest {
     }
 
     private void run(int kind) {
-        for (int i = 0; i < 40 && kind > 0; i++) {
+        if (kind == RANKS) {
+            raiseLines();
+        }
+        for (int i = 0; i < 40 && kind > 0 && kind != RANKS; i++) {
             if (chance(50)) {
                 birth();
             }
@@ -102,6 +106,8 @@ public final class RandomTest {
             if (kind == 0) {
                 typeRow(false);
                 askRow();
+            } else if (kind == RANKS && chance(70)) {
+                changeRanks();
             } else {
                 change(kind);
             }
@@ -265,6 +271,35 @@ public final class RandomTest {
             both.ask("abate", armiger(), below(2));
         } else {
             typeNear();
+        }
+    }
+
+    /** The elder ones die first, and crests are told by the eldest ones, dead or not. */
+    private void changeRanks() {
+        int what = below(12);
+        if (what < 1) {
+            both.ask("setRank", person(), below(5));
+        } else if (what < 3) {
+            both.ask("setCrest", below(below(both.oracle.persons.size()) + 1), charge());
+        } else if (what < 4) {
+            both.ask("setSupporters", person(), charge(), charge());
+        } else if (what < 9) {
+            both.ask("death", below(below(both.oracle.persons.size()) + 1));
+        } else if (what < 10) {
+            typeNear();
+            both.ask("grant", below(4), 0);
+        }
+        for (int i = 0; i < 4; i++) {
+            both.ask("crest", below(both.oracle.persons.size()));
+        }
+        both.ask("supporter", below(both.oracle.persons.size()), below(2));
+    }
+
+    /** A few long lines of men. */
+    private void raiseLines() {
+        for (int p = 0; p < 20; p++) {
+            both.ask("birth", p < 2 ? -1 : chance(60) ? p - 2 : below(p - 1), -1, 1);
+            both.ask("setRank", p, 3);
         }
     }
 

@@ -135,6 +135,44 @@ public final class EdgeKinTest {
         Twin.refused("dead already", UnsupportedOperationException.class, dead, of -> of.death(2));
         Twin.refused("dead already", UnsupportedOperationException.class, Lands.FAMILY, of -> of.death(7));
         Check.due("the one between", 0, () -> dead.make().death(1));
+        Twin.Maker kept = EdgeKinTest::deadAsTheyDied;
+        for (int person : new int[] {0, 1, 3, 4, 6}) {
+            Twin.refused("as they died", UnsupportedOperationException.class, kept, of -> of.death(person));
+        }
+        Blazonry made = kept.make();
+        made.setRank(1, 1);
+        Check.due("had as an heir", 55, () -> made.crest(1));
+        Check.due("by a mother who died as an heiress", 2, () -> made.quarters(5));
+        Check.due("void", "throws.NoSuchElementException", () -> made.borne(6));
+        made.appeal(0);
+        Check.due("restored", 2, () -> made.borne(6));
+    }
+
+    /**
+     * 1 died as the heir of 0, who told a crest; 4, the daughter of 3, as an heiress, though 8 was born since; the arms
+     * of 6 are void since his death, by a suit of 2 against his son 7.
+     */
+    private static Blazonry deadAsTheyDied() {
+        Blazonry land = new Blazonry();
+        Lands.man(land, -1);
+        Lands.man(land, 0);
+        Lands.man(land, -1);
+        Lands.man(land, -1);
+        Lands.woman(land, 3);
+        land.birth(2, 4, true);
+        Lands.man(land, -1);
+        Lands.man(land, 6);
+        Lands.grant(land, 0, 1, 7);
+        Lands.grant(land, 2, 0, 3);
+        Lands.assume(land, 6, 0, 3, 64, 54, 1);
+        Lands.grant(land, 3, 2, 5);
+        land.setCrest(0, 55);
+        for (int person : new int[] {0, 1, 3, 4, 6}) {
+            land.death(person);
+        }
+        Lands.man(land, 3);
+        land.sue(2, 7);
+        return land;
     }
 
     /** Returns how many arms are in abeyance then. */

@@ -6,6 +6,7 @@ import java.util.TreeMap;
 /** Long runs of calls by chance, of a fixed seed, on the class and on the oracle. */
 public final class RandomTest {
     private static final int RANKS = 5;
+    private static final int FULL = 6;
     private static final String[] ASKED = {
         "wrongAt", "point", "points", "breaks", "drawn", "meant", "fewest", "fewestAt", "losses", "translated", "lives",
         "spouse", "isHeiress", "lineOf", "cameBy", "yearOf", "borne", "differences", "difference", "isInAbeyance",
@@ -22,12 +23,12 @@ public final class RandomTest {
     }
 
     public static void main(String[] args) {
-        int runs = args.length > 0 ? Integer.parseInt(args[0]) : 300;
+        int runs = args.length > 0 ? Integer.parseInt(args[0]) : 350;
         long from = args.length > 1 ? Long.parseLong(args[1]) : 1;
         Map<String, Integer> seen = new TreeMap<>();
         for (int run = 0; run < runs; run++) {
             RandomTest test = new RandomTest(from + run, seen);
-            test.run(run % 6);
+            test.run(run % 7);
         }
         if (args.length > 0) {
             System.out.println(seen);
@@ -96,8 +97,10 @@ public final class RandomTest {
     private void run(int kind) {
         if (kind == RANKS) {
             raiseLines();
+        } else if (kind == FULL) {
+            fillLand();
         }
-        for (int i = 0; i < 40 && kind > 0 && kind != RANKS; i++) {
+        for (int i = 0; i < 40 && kind > 0 && kind < RANKS; i++) {
             if (chance(50)) {
                 birth();
             }
@@ -108,6 +111,10 @@ public final class RandomTest {
                 askRow();
             } else if (kind == RANKS && chance(70)) {
                 changeRanks();
+            } else if (kind == FULL && chance(40)) {
+                both.ask("sue", armiger(), armiger());
+                both.ask("appeal", below(both.oracle.judgments.size()));
+                both.ask("pass", 1 + below(3));
             } else {
                 change(kind);
             }
@@ -300,6 +307,27 @@ public final class RandomTest {
         for (int p = 0; p < 20; p++) {
             both.ask("birth", p < 2 ? -1 : chance(60) ? p - 2 : below(p - 1), -1, 1);
             both.ask("setRank", p, 3);
+        }
+    }
+
+    /** The year 5000 is near, and so are 40 persons, 24 arms and 20 judgments: one sues the others, near ones all. */
+    private void fillLand() {
+        for (int p = 0; p < 36; p++) {
+            both.ask("birth", p < 20 ? -1 : below(20), -1, p < 20 || chance(60) ? 1 : 0);
+        }
+        for (int i = 0; i < 49; i++) {
+            both.ask("pass", 100);
+        }
+        both.ask("pass", 80 + below(15));
+        for (int p = 0; p < 20; p++) {
+            int[] words = chance(40) ? new int[] {3} : new int[] {3, 61 + below(3), 51 + below(8), 1};
+            for (int word : words) {
+                both.ask("type", word);
+            }
+            both.ask("assume", p, 0);
+        }
+        for (int p = 1; p < 18; p++) {
+            both.ask("sue", chance(80) ? 0 : below(20), p);
         }
     }
 

@@ -14,7 +14,7 @@ final class Twin {
         Object to(Blazonry land);
     }
 
-    private static final int WAYS = 9;
+    private static final int WAYS = 10;
     private static final Map<Maker, String[]> LEFT_ALONE = new IdentityHashMap<>();
 
     private final Blazonry land;
@@ -53,6 +53,7 @@ final class Twin {
             case 5: twin.shields(); break;
             case 6: twin.court(); break;
             case 7: twin.ranks(0); break;
+            case 8: twin.later(); break;
             default: twin.ranks(1); break;
         }
         return twin.text.toString();
@@ -178,6 +179,31 @@ final class Twin {
             add(land -> land.cameBy(arms));
         }
         add(Blazonry::disclaimed);
+        for (int p = 0; p < land.persons(); p++) {
+            int person = p;
+            add(land -> land.borne(person));
+        }
+    }
+
+    /** What is kept unseen comes out behind a call that changes something. */
+    private void later() {
+        add(land -> land.visit(3));
+        add(land -> land.birth(-1, -1, false));
+        for (int a = 0; a < land.arms(); a++) {
+            int arms = a;
+            add(land -> land.isInAbeyance(arms));
+            add(land -> land.bearers(arms));
+        }
+        for (int p = 0; p < land.persons(); p++) {
+            int person = p;
+            add(land -> land.borne(person));
+            add(land -> land.differences(person));
+            add(land -> land.quarters(person));
+        }
+        for (int p = 0; p < land.persons(); p++) {
+            int person = p;
+            add(land -> land.death(person));
+        }
     }
 
     private void ranks(int odd) {
